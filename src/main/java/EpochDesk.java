@@ -504,7 +504,7 @@ public final class EpochDesk {
         }
 
         double lessTai(Span moment) {
-            return -(double) offsetOf(dayAt(moment));
+            return (double) -offsetOf(dayAt(moment));
         }
 
         Stamp stampOf(Span moment) {

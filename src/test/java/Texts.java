@@ -1,0 +1,38 @@
+/** Texts into a desk and out of it. */
+final class Texts {
+    private Texts() {
+    }
+
+    /** Up to 8 letters as the octets of a long, the lowest first. */
+    static long word(String letters) {
+        long w = 0;
+        for (int i = letters.length() - 1; i >= 0; i--) {
+            w = (w << 8) | letters.charAt(i);
+        }
+        return w;
+    }
+
+    static void put(EpochDesk desk, String letters) {
+        for (int i = 0; i < letters.length(); i += 8) {
+            desk.text(word(letters.substring(i, Math.min(i + 8, letters.length()))));
+        }
+    }
+
+    static int read(EpochDesk desk, int scale, String letters) {
+        put(desk, letters);
+        return desk.read(scale);
+    }
+
+    static String of(EpochDesk desk) {
+        StringBuilder built = new StringBuilder();
+        for (int i = 0; i < desk.count(3); i++) {
+            built.append((char) desk.letter(i));
+        }
+        return built.toString();
+    }
+
+    static String written(EpochDesk desk, int k, int scale, int digits) {
+        desk.write(k, scale, digits);
+        return of(desk);
+    }
+}
