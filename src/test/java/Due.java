@@ -1,16 +1,40 @@
+import java.util.NoSuchElementException;
+
 /** Counts and prints the calls whose answer is not the one that is due. */
 final class Due {
+    static final Class<NoSuchElementException> NONE = NoSuchElementException.class;
+    static final Class<IllegalArgumentException> ARGUMENT = IllegalArgumentException.class;
+    static final Class<IllegalStateException> STATE = IllegalStateException.class;
+    static final Class<IndexOutOfBoundsException> BOUNDS = IndexOutOfBoundsException.class;
+    static final Class<ArithmeticException> ARITHMETIC = ArithmeticException.class;
+
     /** A call of the face whose answer is an int, a long or a double. */
     interface Call {
         Object answer();
     }
 
     private final String test;
+    private String words = "";
     private int wrong;
     private int looked;
 
     Due(String test) {
         this.test = test;
+    }
+
+    /** A test of its own for what the document says in these words; one that looks at nothing fails. */
+    void sentence(String quoted, Runnable look) {
+        words = " [" + quoted + "]";
+        int before = looked;
+        try {
+            look.run();
+        } catch (RuntimeException e) {
+            tell("a call that is not refused", "throws " + e, "an answer");
+        }
+        if (looked == before) {
+            tell("the test", "looked at nothing", "a look");
+        }
+        words = "";
     }
 
     void same(String call, long got, long want) {
@@ -35,6 +59,10 @@ final class Due {
         }
     }
 
+    void isTrue(String what, boolean got) {
+        same(what, String.valueOf(got), "true");
+    }
+
     /** The very class, since a subclass is not what the document says. */
     void refused(String call, Class<? extends RuntimeException> want, Call made) {
         same(call, answerOf(made), "throws " + want.getName());
@@ -57,6 +85,6 @@ final class Due {
 
     private void tell(String call, String got, String want) {
         wrong++;
-        System.out.println(test + ": " + call + " answered " + got + ", due is " + want);
+        System.out.println(test + words + ": " + call + " answered " + got + ", due is " + want);
     }
 }

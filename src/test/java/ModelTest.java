@@ -15,8 +15,9 @@ import java.util.regex.Pattern;
  * UTC days found by stepping over them.
  */
 public final class ModelTest {
-    private static final int RUNS = 1000;
-    private static final int CALLS = 512;
+    private static final int RUNS = 3000;
+    /** As many calls as one step below makes at most. */
+    private static final int DEAREST_STEP = 50;
     private static final BigInteger SECOND = BigInteger.TEN.pow(18);
 
     private static long state = 88172645463325252L;
@@ -40,11 +41,14 @@ public final class ModelTest {
     public static void main(String[] args) {
         Due due = new Due("ModelTest");
         for (int run = 0; run < RUNS; run++) {
-            EpochDesk desk = new EpochDesk();
+            Desk desk = new Desk();
             Model model = new Model();
             int width = pick(3, 30, 3000, 400000);
-            for (int call = 0; call < CALLS; call++) {
-                oneCall(due, desk, model, width);
+            while (desk.callsLeft() >= DEAREST_STEP) {
+                oneStep(due, desk, model, width);
+            }
+            while (desk.callsLeft() > 0) {
+                oneQuestion(due, desk, model);
             }
         }
         due.end();
@@ -103,7 +107,7 @@ public final class ModelTest {
         return some[below(some.length)];
     }
 
-    private static String someText(EpochDesk desk, Model model) {
+    private static String someText(Desk desk, Model model) {
         String form = "%04d-%02d-%02dT%02d:%02d:%02d";
         int year = pick(0, 1900, 1999, 2000, 2000, 2001, 2004, 9999, below(10000));
         String text = String.format(form, year, below(14), below(33), pick(0, 23, 23, below(26)),
@@ -122,7 +126,7 @@ public final class ModelTest {
         return below(12) == 0 ? text.substring(0, below(text.length())) : text;
     }
 
-    private static void oneCall(Due due, EpochDesk desk, Model model, int width) {
+    private static void oneStep(Due due, Desk desk, Model model, int width) {
         int k = someMoment(model);
         int j = someMoment(model);
         int scale = someScale();
@@ -171,7 +175,7 @@ public final class ModelTest {
                 int digits = below(20) == 0 ? pick(-1, 19) : below(19);
                 compare(due, "write(" + k + ", " + scale + ", " + digits + ")", () -> desk.write(k, scale, digits),
                         () -> model.write(k, scale, digits));
-                due.same("the text", Texts.of(desk), model.text);
+                theText(due, desk, model);
                 break;
             }
             case 9:
@@ -199,12 +203,27 @@ public final class ModelTest {
                 compare(due, "count(" + what + ")", () -> desk.count(what), () -> model.count(what));
                 break;
             }
-            default: {
-                int what = below(30) == 0 ? pick(-1, 10) : below(10);
-                compare(due, "date(" + k + ", " + scale + ", " + what + ")", () -> desk.date(k, scale, what),
-                        () -> model.date(k, scale, what));
+            default:
+                oneQuestion(due, desk, model);
                 break;
-            }
+        }
+    }
+
+    private static void oneQuestion(Due due, Desk desk, Model model) {
+        int k = someMoment(model);
+        int scale = someScale();
+        int what = below(30) == 0 ? pick(-1, 10) : below(10);
+        compare(due, "date(" + k + ", " + scale + ", " + what + ")", () -> desk.date(k, scale, what),
+                () -> model.date(k, scale, what));
+    }
+
+    /** All its letters cost many of the calls that there are, so most often one of them is asked for. */
+    private static void theText(Due due, Desk desk, Model model) {
+        if (below(6) == 0) {
+            due.same("the text", Texts.of(desk), model.text);
+        } else {
+            int k = below(40);
+            compare(due, "letter(" + k + ")", () -> desk.letter(k), () -> model.letter(k));
         }
     }
 
@@ -452,6 +471,13 @@ public final class ModelTest {
             }
             text = text + more;
             return text.length();
+        }
+
+        int letter(int k) {
+            if (k >= text.length()) {
+                throw new IndexOutOfBoundsException();
+            }
+            return text.charAt(k);
         }
 
         /** A start of a text is one that can be filled up to a text with letters of some longest text. */

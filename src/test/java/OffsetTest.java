@@ -1,28 +1,25 @@
-import java.util.NoSuchElementException;
-
-/** Promise 9: offset, with what the terms say of LEAPS and TURNS. */
+/** Promise 9: offset. What it tells where rows of LEAPS and TURNS begin stands in LeapsTermTest and TurnsTermTest. */
 public final class OffsetTest {
     private static final Due DUE = new Due("OffsetTest");
-    private static final long SECOND = 1_000_000_000_000_000_000L;
 
     public static void main(String[] args) {
-        withoutRows();
-        coordinated();
-        earthWithOneRow();
-        earthBetweenRows();
-        earthWithLeaps();
-        beyondTheYears();
-        whatIsWrong();
+        DUE.sentence("SCALE less TAI at MOMENT k in seconds, as a real", OffsetTest::withoutRows);
+        DUE.sentence("UTC: minus the OFFSET of its day", OffsetTest::coordinated);
+        DUE.sentence("TT: 32.184", OffsetTest::terrestrial);
+        DUE.sentence("UT1: as said, not yet turned into seconds and ATTOS", OffsetTest::notYetTurned);
+        DUE.sentence("a MOMENT whose year is not 0 to 9999", OffsetTest::beyondTheYears);
+        DUE.sentence("NoSuchElementException likewise", OffsetTest::thereIsNoK);
+        DUE.sentence("IllegalArgumentException likewise", OffsetTest::noSuchScale);
+        DUE.sentence("the exceptions in the order in which they stand", OffsetTest::order);
         DUE.end();
     }
 
-    private static void offset(EpochDesk desk, int k, int scale, double want) {
+    private static void offset(Desk desk, int k, int scale, double want) {
         DUE.same("offset(" + k + ", " + scale + ")", desk.offset(k, scale), want);
     }
 
     private static void withoutRows() {
-        EpochDesk desk = new EpochDesk();
-        desk.make(1000, 1000);
+        Desk desk = Desks.withOneMoment(1000, 1000);
         offset(desk, 0, 0, 0.0);
         offset(desk, 0, 1, -32.0);
         offset(desk, 0, 2, 32.184);
@@ -31,84 +28,47 @@ public final class OffsetTest {
     }
 
     private static void coordinated() {
-        EpochDesk desk = new EpochDesk();
+        Desk desk = new Desk();
         desk.leap(10, 33);
         desk.leap(20, 32);
         desk.leap(21, 31);
         long[][] rows = {
             {864032, 32}, {864033, 33}, {1728031, 33}, {1728032, 32}, {1814430, 32}, {1814431, 31},
-            {400_000_000_000L, 31}, {-100_000_000_000L, 32},
+            {Edges.MOST_SECONDS, 31}, {Edges.LEAST_SECONDS, 32},
         };
         for (int k = 0; k < rows.length; k++) {
-            desk.make(rows[k][0], k % 2 == 0 ? SECOND - 1 : 0);
+            desk.make(rows[k][0], k % 2 == 0 ? Edges.LAST_ATTO : 0);
             offset(desk, k, 1, -(double) rows[k][1]);
-            offset(desk, k, 4, -(double) rows[k][1]);
         }
     }
 
-    private static void earthWithOneRow() {
-        EpochDesk desk = new EpochDesk();
-        desk.turn(10, 0.3);
-        for (long seconds : new long[] {-100_000_000_000L, 864031, 864032, 864033, 400_000_000_000L}) {
-            offset(desk, desk.make(seconds, 5), 4, 0.3 - 32.0);
-        }
-        desk.leap(10, 33);
-        for (int k = 0; k < 5; k++) {
-            offset(desk, k, 4, 0.3 - 33.0);
+    private static void terrestrial() {
+        Desk desk = Desks.some();
+        for (int k = 0; k < desk.count(0); k++) {
+            offset(desk, k, 0, 0.0);
+            offset(desk, k, 2, 32.184);
+            offset(desk, k, 3, -19.0);
         }
     }
 
-    private static void earthBetweenRows() {
-        EpochDesk desk = new EpochDesk();
-        desk.turn(10, 0.3);
-        desk.turn(13, -0.7);
-        desk.turn(20, 0.9);
-        double x = 0.3 - 32.0;
-        double y = -0.7 - 32.0;
-        double z = 0.9 - 32.0;
-        offset(desk, desk.make(864031, SECOND - 1), 4, x);
-        offset(desk, desk.make(864032, 0), 4, x);
-        offset(desk, desk.make(864033, 0), 4, x + (y - x) * (1.0 / 259200.0));
-        double p = 100.0 + (double) 123456789L * 1.0E-18;
-        offset(desk, desk.make(864132, 123456789), 4, x + (y - x) * (p / 259200.0));
-        p = 5.0 + (double) (SECOND - 1) * 1.0E-18;
-        offset(desk, desk.make(864037, SECOND - 1), 4, x + (y - x) * (p / 259200.0));
-        p = 259199.0 + (double) (SECOND - 1) * 1.0E-18;
-        offset(desk, desk.make(1123231, SECOND - 1), 4, x + (y - x) * (p / 259200.0));
-        offset(desk, desk.make(1123232, 0), 4, y);
-        offset(desk, desk.make(1123232 + 77777, 0), 4, y + (z - y) * (77777.0 / 604800.0));
-        offset(desk, desk.make(1728031, 0), 4, y + (z - y) * (604799.0 / 604800.0));
-        offset(desk, desk.make(1728032, 0), 4, z);
-        offset(desk, desk.make(1728033, 1), 4, z);
-    }
-
-    /** A row's X has the OFFSET of its DAY, and its beginning too; L has the leap seconds between. */
-    private static void earthWithLeaps() {
-        EpochDesk desk = new EpochDesk();
-        desk.turn(10, 0.4);
-        desk.turn(12, -0.5);
-        desk.turn(14, 0.5);
-        desk.make(864132, 0);
-        desk.make(1036832, 0);
-        desk.make(1036833, 0);
-        desk.leap(11, 33);
-        desk.leap(14, 32);
-        double x = 0.4 - 32.0;
-        double y = -0.5 - 33.0;
-        double z = 0.5 - 32.0;
-        offset(desk, 0, 4, x + (y - x) * (100.0 / 172801.0));
-        offset(desk, 1, 4, x + (y - x) * (172800.0 / 172801.0));
-        offset(desk, 2, 4, y);
-        offset(desk, desk.make(1036834, 0), 4, y + (z - y) * (1.0 / 172799.0));
-        offset(desk, desk.make(1209631, 0), 4, y + (z - y) * (172798.0 / 172799.0));
-        offset(desk, desk.make(1209632, 0), 4, z);
+    /** A real that whole attoseconds can not tell. */
+    private static void notYetTurned() {
+        Desk desk = new Desk();
+        desk.turn(0, 0.1);
+        desk.turn(1, 0.2);
+        double x = 0.1 - 32.0;
+        double y = 0.2 - 32.0;
+        offset(desk, desk.make(32, 0), 4, x);
+        offset(desk, desk.make(33, 0), 4, x + (y - x) * (1.0 / 86400.0));
+        offset(desk, desk.make(32 + 86400, 0), 4, y);
     }
 
     private static void beyondTheYears() {
-        EpochDesk desk = new EpochDesk();
-        desk.make(-100_000_000_000L, 0);
-        desk.make(400_000_000_000L, 0);
-        for (int k = 0; k < 2; k++) {
+        Desk desk = Desks.withOneMoment(Edges.LEAST_SECONDS, 0);
+        desk.make(Edges.YEAR_0 - 1, Edges.LAST_ATTO);
+        desk.make(Edges.YEAR_10000 + 32, 0);
+        desk.make(Edges.MOST_SECONDS, Edges.LAST_ATTO);
+        for (int k = 0; k < 4; k++) {
             offset(desk, k, 0, 0.0);
             offset(desk, k, 1, -32.0);
             offset(desk, k, 2, 32.184);
@@ -117,13 +77,38 @@ public final class OffsetTest {
         }
     }
 
-    private static void whatIsWrong() {
-        EpochDesk desk = new EpochDesk();
-        DUE.refused("offset(0, 0)", NoSuchElementException.class, () -> desk.offset(0, 0));
-        desk.make(0, 0);
-        for (int odd : new int[] {-1, 5, Integer.MAX_VALUE, Integer.MIN_VALUE}) {
-            DUE.refused("offset(0, " + odd + ")", IllegalArgumentException.class, () -> desk.offset(0, odd));
-            DUE.refused("offset(" + odd + ", " + odd + ")", NoSuchElementException.class, () -> desk.offset(odd, odd));
+    private static void refused(Desk desk, int k, int scale, Class<? extends RuntimeException> want) {
+        DUE.refused("offset(" + k + ", " + scale + ")", want, () -> desk.offset(k, scale));
+    }
+
+    private static void thereIsNoK() {
+        refused(new Desk(), 0, 0, Due.NONE);
+        Desk desk = Desks.withMoments(3);
+        for (int scale = 0; scale < 5; scale++) {
+            refused(desk, 3, scale, Due.NONE);
+            for (int k : Edges.FAR_OFF) {
+                refused(desk, k, scale, Due.NONE);
+            }
         }
+        offset(desk, 2, 0, 0.0);
+        Desk full = Desks.withMoments(40);
+        offset(full, 39, 3, -19.0);
+        refused(full, 40, 0, Due.NONE);
+    }
+
+    private static void noSuchScale() {
+        Desk desk = Desks.withMoments(1);
+        refused(desk, 0, 5, Due.ARGUMENT);
+        for (int scale : Edges.FAR_OFF) {
+            refused(desk, 0, scale, Due.ARGUMENT);
+        }
+        offset(desk, 0, 0, 0.0);
+        offset(desk, 0, 4, -32.0);
+    }
+
+    private static void order() {
+        Desk desk = Desks.withMoments(1);
+        refused(desk, 1, 5, Due.NONE);
+        refused(desk, -1, -1, Due.NONE);
     }
 }

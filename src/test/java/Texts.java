@@ -12,26 +12,27 @@ final class Texts {
         return w;
     }
 
-    static void put(EpochDesk desk, String letters) {
+    static void put(Desk desk, String letters) {
         for (int i = 0; i < letters.length(); i += 8) {
             desk.text(word(letters.substring(i, Math.min(i + 8, letters.length()))));
         }
     }
 
-    static int read(EpochDesk desk, int scale, String letters) {
+    static int read(Desk desk, int scale, String letters) {
         put(desk, letters);
         return desk.read(scale);
     }
 
-    static String of(EpochDesk desk) {
+    static String of(Desk desk) {
         StringBuilder built = new StringBuilder();
-        for (int i = 0; i < desk.count(3); i++) {
+        int length = desk.count(3);
+        for (int i = 0; i < length; i++) {
             built.append((char) desk.letter(i));
         }
         return built.toString();
     }
 
-    static String written(EpochDesk desk, int k, int scale, int digits) {
+    static String written(Desk desk, int k, int scale, int digits) {
         desk.write(k, scale, digits);
         return of(desk);
     }
