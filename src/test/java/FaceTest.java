@@ -76,7 +76,8 @@ public final class FaceTest {
             staticFieldsAreConstants(field);
         }
         Class<?>[] classes = desk.getDeclaredClasses();
-        DUE.same("at most 12 classes", classes.length + 1 <= 12 ? 1L : 0L, 1L);
+        DUE.isTrue("at most 12 classes", classes.length + 1 <= 12);
+        isOfSmallSize(desk);
         for (Class<?> inside : classes) {
             int modifiers = inside.getModifiers();
             DUE.same(inside + " static", Modifier.isStatic(modifiers) ? 1L : 0L, 1L);
@@ -84,6 +85,22 @@ public final class FaceTest {
             for (Field field : inside.getDeclaredFields()) {
                 staticFieldsAreConstants(field);
             }
+            isOfSmallSize(inside);
+        }
+    }
+
+    /** LANGUAGE.md's rule 11. */
+    private static void isOfSmallSize(Class<?> one) {
+        int fields = 0;
+        for (Field field : one.getDeclaredFields()) {
+            fields += Modifier.isStatic(field.getModifiers()) ? 0 : 1;
+        }
+        DUE.isTrue(one + " has at most 20 fields", fields <= 20);
+        for (Method method : one.getDeclaredMethods()) {
+            DUE.isTrue(method + " takes at most seven", method.getParameterCount() <= 7);
+        }
+        for (Constructor<?> constructor : one.getDeclaredConstructors()) {
+            DUE.isTrue(constructor + " takes at most seven", constructor.getParameterCount() <= 7);
         }
     }
 

@@ -27,6 +27,7 @@ public final class LanguageTest {
         onlyOf(Set.of("Math.floorDiv", "Math.floorMod", "Math.min", "Math.max", "Math.abs"), "\\bMath\\.\\w+", code);
         onlyOf(Set.of("Long.compare", "Long.min", "Long.max"), "\\b(Long|Integer)\\.\\w+", code);
         everyThrowIsPlain(code);
+        methodsAreShort(code);
         DUE.end();
     }
 
@@ -54,5 +55,23 @@ public final class LanguageTest {
         String plain = "\\bthrow new (IllegalStateException|IllegalArgumentException|IndexOutOfBoundsException"
                 + "|ArithmeticException|NoSuchElementException)\\((\"[^\"]*\")?\\);";
         DUE.same("throws that are not plain", placesOf("\\bthrow\\b", code) - placesOf(plain, code), 0L);
+    }
+
+    /** From a line that opens a method's body to the one that closes it, by how far they are set in. */
+    private static void methodsAreShort(String code) {
+        String[] lines = code.split("\n");
+        int methods = 0;
+        for (int i = 0; i < lines.length; i++) {
+            if (lines[i].matches("( {4}| {8})(?!if |for |while |switch |do )[^ }@].*\\)( throws [\\w, ]+)? \\{")) {
+                String close = lines[i].replaceAll("[^ ].*", "") + "}";
+                int end = i;
+                while (end < lines.length && !lines[end].equals(close)) {
+                    end++;
+                }
+                DUE.isTrue(lines[i].strip() + " has at most 60 lines", end - i < 60);
+                methods++;
+            }
+        }
+        DUE.isTrue("methods were found", methods > 50);
     }
 }
