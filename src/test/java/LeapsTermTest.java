@@ -8,6 +8,7 @@ public final class LeapsTermTest {
         DUE.sentence("LEAPS with 20 rows", LeapsTermTest::twentyRows);
         DUE.sentence("UTC day D begins when TAI is 86400 D + OFFSET of D seconds", LeapsTermTest::beginnings);
         DUE.sentence("it ends when the next one begins", LeapsTermTest::ends);
+        DUE.sentence("What has passed of it, up to 86400 seconds and more", LeapsTermTest::whatHasPassed);
         DUE.sentence("the first 86399 seconds are told as hours, minutes, seconds as usual", LeapsTermTest::asUsual);
         DUE.sentence("what is behind them as 23:59:59, 23:59:60", LeapsTermTest::whatIsBehind);
         DUE.sentence("(A day that has 86399 seconds has no 23:59:59.)", LeapsTermTest::shortDays);
@@ -99,6 +100,27 @@ public final class LeapsTermTest {
         told(desk, 86400L * 10 + 33, 0, "2000-01-11T00:00:00.000000000000000000");
         told(desk, 86400L * 20 + 31, Edges.LAST_ATTO, "2000-01-20T23:59:58.999999999999999999");
         told(desk, 86400L * 20 + 32, 0, "2000-01-21T00:00:00.000000000000000000");
+    }
+
+    /** Told by julian, which counts on through the second that has come; the next day begins with nothing passed. */
+    private static void whatHasPassed() {
+        for (int more = -1; more <= 1; more++) {
+            Desk desk = new Desk();
+            if (more != 0) {
+                desk.leap(10, 32 + more);
+            }
+            long begin = 86400L * 9 + 32;
+            long last = 86399 + more;
+            for (long passed : new long[] {0, 1, 43200, last - 1, last}) {
+                int k = desk.make(begin + passed, Edges.SECOND / 2);
+                double want = (2451544.5 + 9.0) + (passed + 0.5) / 86400.0;
+                DUE.same("julian with " + passed + " passed", desk.julian(k, 1), want);
+                DUE.same("DAY with " + passed + " passed", desk.date(k, 1, 9), 9L);
+            }
+            int next = desk.make(begin + last + 1, 0);
+            DUE.same("julian of the next day", desk.julian(next, 1), 2451544.5 + 10.0);
+            DUE.same("DAY of the next day", desk.date(next, 1, 9), 10L);
+        }
     }
 
     private static void asUsual() {

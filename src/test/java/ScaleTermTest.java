@@ -7,6 +7,7 @@ public final class ScaleTermTest {
         DUE.sentence("0 TAI", ScaleTermTest::tai);
         DUE.sentence("2 TT: 32 seconds and 184 * 10^15 ATTOS more than TAI", ScaleTermTest::tt);
         DUE.sentence("3 GPS: 19 seconds less", ScaleTermTest::gps);
+        DUE.sentence("A date on a SCALE but UTC is that of TAI with as much more", ScaleTermTest::asMuchMore);
         DUE.sentence("each day has 86400 seconds", ScaleTermTest::daysOf86400Seconds);
         DUE.sentence("read on a SCALE but UTC", ScaleTermTest::reads);
         DUE.end();
@@ -68,6 +69,37 @@ public final class ScaleTermTest {
         written(19, 0, 3, "2000-01-01T00:00:00.000000000000000000");
         written(86418, Edges.LAST_ATTO, 3, "2000-01-01T23:59:59.999999999999999999");
         written(86419, 0, 3, "2000-01-02T00:00:00.000000000000000000");
+    }
+
+    /** Number by number, as text and as Julian date, like the MOMENT that is behind by as much on TAI. */
+    private static void asMuchMore() {
+        long[][] moments = {
+            {0, 0}, {86367, 816_000_000_000_000_000L}, {951_782_400 - 32, 1}, {Edges.YEAR_0 + 40, Edges.LAST_ATTO},
+            {Edges.YEAR_10000 - 40, Edges.LAST_ATTO}, {10 * Edges.DAY + 32, 5},
+        };
+        for (long[] moment : moments) {
+            for (int offset : new int[] {33, 31}) {
+                isLikeTai(moment, offset, 0, 0, 0);
+                isLikeTai(moment, offset, 2, 32, 184_000_000_000_000_000L);
+                isLikeTai(moment, offset, 3, -19, 0);
+                isLikeTai(moment, offset, 4, -32, 250_000_000_000_000_000L);
+            }
+        }
+    }
+
+    /** With a row of LEAPS behind the only row of TURNS, so that UT1 has -31.75 seconds more throughout. */
+    private static void isLikeTai(long[] moment, int offset, int scale, long seconds, long attos) {
+        Desk desk = Desks.withOneMoment(moment[0], moment[1]);
+        desk.turn(5, 0.25);
+        desk.leap(10, offset);
+        long sum = moment[1] + attos;
+        desk.make(moment[0] + seconds + sum / Edges.SECOND, sum % Edges.SECOND);
+        String on = " on " + scale + " at " + moment[0];
+        for (int what = 0; what <= 9; what++) {
+            DUE.same("date " + what + on, desk.date(0, scale, what), desk.date(1, 0, what));
+        }
+        DUE.same("julian" + on, desk.julian(0, scale), desk.julian(1, 0));
+        DUE.same("text" + on, Texts.written(desk, 0, scale, 18), Texts.written(desk, 1, 0, 18));
     }
 
     /** Also round a DAY of the LEAPS, whether a second comes there or goes. */

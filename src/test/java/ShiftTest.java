@@ -1,3 +1,6 @@
+import java.math.BigDecimal;
+import java.math.RoundingMode;
+
 /** Promise 5: shift, with how the terms turn a real into seconds and ATTOS. */
 public final class ShiftTest {
     private static final Due DUE = new Due("ShiftTest");
@@ -11,6 +14,7 @@ public final class ShiftTest {
 
     public static void main(String[] args) {
         DUE.sentence("The MOMENT that is s seconds behind MOMENT k", ShiftTest::behind);
+        DUE.sentence("(s is turned into seconds and ATTOS as said of UT1", ShiftTest::asSaidOfUt1);
         DUE.sentence("the greatest whole number that is not above it", ShiftTest::wholeNumbers);
         DUE.sentence("and what is left times 10^18, cut towards 0", ShiftTest::whatIsLeft);
         DUE.sentence("should that be 10^18: one second more, and 0", ShiftTest::aSecondMore);
@@ -49,6 +53,18 @@ public final class ShiftTest {
         shifted(100, 7, 86400.0, 86500, 7);
         shifted(100, 7, -86400.0, -86300, 7);
         shifted(0, 0, 1234567.890625, 1234567, 890_625_000_000_000_000L);
+    }
+
+    /** From the real's exact value; what is left is rounded once, as it comes to be told as a real, and then cut. */
+    private static void asSaidOfUt1() {
+        for (double s : new double[] {0.1, -0.1, 1.0 / 3.0, -1.0 / 3.0, 32.184, -32.184, 1.0E9 + 0.7, -1.0E9 - 0.7, 1.0E-9}) {
+            BigDecimal exact = new BigDecimal(s);
+            long whole = exact.setScale(0, RoundingMode.FLOOR).longValueExact();
+            double left = exact.subtract(new BigDecimal(whole)).doubleValue();
+            long attos = (long) new BigDecimal(left).multiply(new BigDecimal("1E18")).doubleValue();
+            shifted(0, 0, s, whole, attos);
+            shifted(-5, 0, s, whole - 5, attos);
+        }
     }
 
     private static void wholeNumbers() {

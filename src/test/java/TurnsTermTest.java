@@ -8,6 +8,7 @@ public final class TurnsTermTest {
         DUE.sentence("and at or behind the last one, its X", TurnsTermTest::atOrBehindTheLast);
         DUE.sentence("with one row", TurnsTermTest::oneRow);
         DUE.sentence("with 20 rows", TurnsTermTest::twentyRows);
+        DUE.sentence("V (UT1 less UTC as the UTC DAY begins)", TurnsTermTest::lessUtcAsDaysBegin);
         DUE.sentence("X is V less the OFFSET of that DAY", TurnsTermTest::valueLessOffset);
         DUE.sentence("X is V less the OFFSET: -1 and 1", TurnsTermTest::leastAndMostValue);
         DUE.sentence("else, between rows: where they begin", TurnsTermTest::whereRowsBegin);
@@ -15,6 +16,7 @@ public final class TurnsTermTest {
         DUE.sentence("P is the difference from B to the MOMENT as difference() tells it", TurnsTermTest::asDifferenceTells);
         DUE.sentence("L the whole seconds from B to E", TurnsTermTest::lengths);
         DUE.sentence("rows at the least and the most DAY", TurnsTermTest::farthestRows);
+        DUE.sentence("That real is turned into seconds and ATTOS", TurnsTermTest::turnedIntoSecondsAndAttos);
         DUE.sentence("the greatest whole number that is not above it", TurnsTermTest::wholeNumbers);
         DUE.sentence("what is left times 10^18, cut towards 0", TurnsTermTest::whatIsLeft);
         DUE.end();
@@ -94,6 +96,25 @@ public final class TurnsTermTest {
             offset(desk, 259200L * i + 32, 0, x[i]);
             offset(desk, 259200L * i + 32 + 12345, 0,
                     i == 19 ? x[i] : x[i] + (x[i + 1] - x[i]) * (12345.0 / 259200.0));
+        }
+    }
+
+    /** With parts that reals tell exactly, on days that have a second more, one less, and as many as usual. */
+    private static void lessUtcAsDaysBegin() {
+        Desk desk = new Desk();
+        int[] days = {3, 10, 11, 20, 25, 40};
+        double[] values = {0.5, -0.25, 1.0, -1.0, 0.0, 0.125};
+        int[] offsets = {32, 33, 33, 32, 31, 31};
+        desk.leap(10, 33);
+        desk.leap(20, 32);
+        desk.leap(22, 31);
+        for (int i = 0; i < days.length; i++) {
+            desk.turn(days[i], values[i]);
+            desk.make(86400L * days[i] + offsets[i], 0);
+        }
+        for (int k = 0; k < days.length; k++) {
+            DUE.same("UTC begins a day at " + k, desk.date(k, 1, 9), days[k]);
+            DUE.same("UT1 less UTC at " + k, desk.offset(k, 4) - desk.offset(k, 1), values[k]);
         }
     }
 
@@ -235,6 +256,25 @@ public final class TurnsTermTest {
         offset(desk, end - 1, 0, -33.0 + 2.0 * ((l - 1.0) / l));
         offset(desk, end, 0, -31.0);
         offset(desk, Edges.MOST_SECONDS, Edges.LAST_ATTO, -31.0);
+    }
+
+    /** The date is that of TAI behind by the real that offset tells, turned as shift turns it. */
+    private static void turnedIntoSecondsAndAttos() {
+        Desk desk = threeRows();
+        desk.leap(12, 33);
+        desk.leap(15, 32);
+        long[] seconds = {0, 864032, 900000, 1036832, 1123233, 1296032, 1500000, 1728031, 1728032, 99_999_999_999L};
+        for (int i = 0; i < seconds.length; i++) {
+            int k = desk.make(seconds[i], 123_456_789_012_345_678L * i % Edges.SECOND);
+            int turned = desk.shift(k, desk.offset(k, 4));
+            for (int what = 0; what <= 9; what++) {
+                DUE.same("date(" + k + ", 4, " + what + ")", desk.date(k, 4, what), desk.date(turned, 0, what));
+            }
+            DUE.same("julian(" + k + ", 4)", desk.julian(k, 4), desk.julian(turned, 0));
+            desk.write(k, 4, 18);
+            int read = desk.read(0);
+            DUE.same("what is written on UT1, read on TAI", desk.compare(read, turned), 0L);
+        }
     }
 
     private static void told(double v, long seconds, long attos, String want) {
