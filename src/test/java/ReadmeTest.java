@@ -27,6 +27,7 @@ public final class ReadmeTest {
         everyCallIsShown(calls, readme);
         DUE.same("the way to run the tests", linesOf("sh", readme).toString(), "[.ci/run]");
         DUE.isTrue(".ci/run can be run", Files.isExecutable(Path.of(".ci/run")));
+        theWayToUseItWorks(readme);
         everyTestIsNamed(readme);
         DUE.end();
     }
@@ -99,6 +100,23 @@ public final class ReadmeTest {
                 DUE.isTrue(name + " has a row", row.find());
                 DUE.same(name + " throws", row.group(1).strip(), String.join(", ", thrown));
             }
+        }
+    }
+
+    /** The commands as they are shown, with a Yours.java that asks a new object. */
+    private static void theWayToUseItWorks(String readme) throws IOException, ReflectiveOperationException {
+        List<String> commands = linesOf("shell", readme);
+        DUE.same("commands to use it", commands.size(), 2L);
+        String compile = "javac -d build/use src/main/java/EpochDesk.java Yours.java";
+        DUE.same("the first", commands.get(0), compile);
+        DUE.same("the second", commands.get(1), "java -cp build/use Yours");
+        Path yours = Files.createDirectories(Path.of("build/yours")).resolve("Yours.java");
+        Files.writeString(yours, "public class Yours { public static int asked() { return new EpochDesk().wrong(); } }");
+        String[] words = compile.replace("javac ", "").replace("Yours.java", yours.toString()).split(" ");
+        DUE.same(compile, ToolProvider.getSystemJavaCompiler().run(null, null, null, words), 0L);
+        URL folder = Path.of("build/use").toUri().toURL();
+        try (URLClassLoader loader = new URLClassLoader(new URL[] {folder}, ClassLoader.getPlatformClassLoader())) {
+            DUE.same("wrong()", loader.loadClass("Yours").getMethod("asked").invoke(null).toString(), "-1");
         }
     }
 
